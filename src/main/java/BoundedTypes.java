@@ -358,8 +358,8 @@ public final class BoundedTypes {
     private static final class Member {
         private final int name;
         private final int result;
-        /** None for a field. */
-        private Bounds bounds;
+        private boolean isMethod;
+        private final Bounds bounds = new Bounds();
         private final int[] parameterNames = new int[MOST_LISTED];
         private final int[] parameterTypes = new int[MOST_LISTED];
         private int parameterCount;
@@ -369,10 +369,6 @@ public final class BoundedTypes {
         Member(int name, int result) {
             this.name = name;
             this.result = result;
-        }
-
-        boolean isMethod() {
-            return bounds != null;
         }
 
         void addParameter(int parameter, int type) {
@@ -478,7 +474,8 @@ public final class BoundedTypes {
         Entry readDeclaration(int typedCount) {
             start(typedCount);
             int name = takeLetter('A', 'H');
-            Bounds bounds = readBounds();
+            Bounds bounds = new Bounds();
+            readBounds(bounds);
             take(':');
             int above = readType(false);
             Entry entry = new Entry(name, bounds, above, types.classOf(above));
@@ -588,10 +585,9 @@ public final class BoundedTypes {
             return types.classType(name, first, second, third);
         }
 
-        private Bounds readBounds() {
-            Bounds bounds = new Bounds();
+        private void readBounds(Bounds bounds) {
             if (marks[now] != '[') {
-                return bounds;
+                return;
             }
             open('[');
             boolean goesOn = true;
@@ -602,7 +598,6 @@ public final class BoundedTypes {
                 goesOn = takeComma(i + 1 < MOST_LISTED);
             }
             close(']');
-            return bounds;
         }
 
         private boolean takeComma(boolean mayFollow) {
@@ -615,7 +610,8 @@ public final class BoundedTypes {
             int result = readType(true);
             Member member = new Member(takeLetter('a', 'z'), result);
             if (marks[now] != ';') {
-                member.bounds = readBounds();
+                member.isMethod = true;
+                readBounds(member.bounds);
                 readParameters(member);
                 take('=');
                 inside = member;
@@ -1137,7 +1133,7 @@ public final class BoundedTypes {
             for (int i = 0; i < entry.members.size() && wrong == 0; i++) {
                 Member member = entry.members.get(i);
                 types.makeRoom();
-                wrong = member.isMethod() ? wrongInMethod(entry, member) : wrongInField(entry, member);
+                wrong = member.isMethod ? wrongInMethod(entry, member) : wrongInField(entry, member);
             }
             return wrong;
         }
@@ -1148,7 +1144,7 @@ public final class BoundedTypes {
             int wrong = 0;
             for (int i = 0; i < entry.members.size() && wrong == 0; i++) {
                 Member member = entry.members.get(i);
-                if (member.isMethod()) {
+                if (member.isMethod) {
                     enter(entry, member);
                     expressions.standIn(self, member);
                     wrong = expressions.wrongIn(member.codeStart, member.codeEnd);

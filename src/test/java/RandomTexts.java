@@ -141,7 +141,8 @@ final class RandomTexts {
 
     private String member(PlainModel.Declared d, PlainModel.Type self, Map<Character, PlainModel.Type> classScope) {
         if (chance(40)) {
-            PlainModel.Field field = new PlainModel.Field(type(classScope, 0, true), oneOf(FIELDS + (chance(spoilt) ? "t" : "")));
+            char name = chance(spoilt) ? 't' : oneOf(FIELDS);
+            PlainModel.Field field = new PlainModel.Field(type(classScope, 0, true), name);
             d.fields().add(field);
             return show(field.type()) + field.name() + ";";
         }
@@ -207,6 +208,9 @@ final class RandomTexts {
     /** An expression whose type should lie in the given one. */
     private String wanted(PlainModel.Type due, Map<Character, PlainModel.Type> names,
             Map<Character, PlainModel.Type> scope, int depth) {
+        if (chance(spoilt / 2)) {
+            return "" + oneOf(PARAMETERS);
+        }
         PlainModel.Type aim = chance(spoilt) ? type(scope, 0, true) : due;
         int way = random.nextInt(depth > 4 ? 40 : 100);
         if (way < 40) {
