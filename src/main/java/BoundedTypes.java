@@ -143,10 +143,10 @@ public final class BoundedTypes {
     private static final class Types {
         /** Stands where a class would, for the types that a call names. */
         static final int LIST = CLASSES;
-        private static final int FIRST_SIZE = 2048;
+        private static final int FIRST_SIZE = 512;
         private static final int MOST_SIZE = 1 << 15;
-        /** More than any single check can make: a chain of eight classes, whose texts have at most 45 types each. */
-        private static final int ROOM = 1024;
+        /** More than are in one text, and so more than reading one, or filling in one type, can make. */
+        private static final int ROOM = 256;
         private static final int BUCKETS = 1024;
 
         private int[] classes = new int[FIRST_SIZE];
@@ -357,6 +357,7 @@ public final class BoundedTypes {
     /** A field, or a method: then it has bounds, parameters and the steps of its expression. */
     private static final class Member {
         private final int name;
+        /** The type of a field, or of what a method gives. */
         private final int result;
         private boolean isMethod;
         private final Bounds bounds = new Bounds();
@@ -942,6 +943,9 @@ public final class BoundedTypes {
             if (!types.holdsVariable(type) || depth > MOST_BRACKETS) {
                 return type;
             }
+            if (depth == 0) {
+                types.makeRoom();
+            }
             int first = filled(types.part(type, 0), depth + 1);
             int second = filled(types.part(type, 1), depth + 1);
             int third = filled(types.part(type, 2), depth + 1);
@@ -979,7 +983,6 @@ public final class BoundedTypes {
             top = 0;
             int wrong = 0;
             for (int step = start; step < end && wrong == 0; step++) {
-                types.makeRoom();
                 int subject = code.subjects[step];
                 switch (code.kinds[step]) {
                     case Code.NAME:
@@ -1132,7 +1135,6 @@ public final class BoundedTypes {
             int wrong = 0;
             for (int i = 0; i < entry.members.size() && wrong == 0; i++) {
                 Member member = entry.members.get(i);
-                types.makeRoom();
                 wrong = member.isMethod ? wrongInMethod(entry, member) : wrongInField(entry, member);
             }
             return wrong;

@@ -6,6 +6,8 @@ public final class DeclareTest {
         head();
         goodTypes();
         ownClass();
+        allLetters();
+        deepTypes();
         fields();
         methods();
         overriding();
@@ -92,6 +94,44 @@ public final class DeclareTest {
         s.declare("G:A{B[G]f;}", -2000);
     }
 
+    private static void allLetters() {
+        Session s = new Session();
+        for (char variable = 'S'; variable <= 'Z'; variable++) {
+            char name = (char) ('B' + (variable - 'S'));
+            String bounds = "[" + variable + ":A]";
+            if (name <= 'H') {
+                s.declare(name + bounds + ":A{" + variable + "f;" + variable + "m(" + variable + "x)=x;}", name - 'A' + 1);
+                s.run("*" + name + "[A](*A()).m(*A())", 1).gave("A");
+            }
+        }
+        new Session().declare("B[Z:A]:A{Zf;Zm()=t.f;Sn[S:A](Sx)=x;}", 2);
+        for (char name = 'a'; name <= 'z'; name++) {
+            int fieldAnswer = name == 't' ? -3000 : 2;
+            new Session().declare("B:A{A" + name + ";}", fieldAnswer);
+            new Session().declare("B:A{Am(A" + name + ")=" + name + ";}", fieldAnswer);
+            new Session().declare("B:A{A" + name + "()=t." + name + "();}", 2);
+        }
+    }
+
+    /** Eight brackets in one another are right, not only read. */
+    private static void deepTypes() {
+        Session s = new Session();
+        s.declare("B[X:A]:A{}", 2);
+        s.declare("C:" + "B[".repeat(8) + "A" + "]".repeat(8) + "{}", 3);
+        s.declare("D:" + "B[".repeat(8) + "E" + "]".repeat(8) + "{}", -2000);
+        s.declare("D[Y:A]:" + "B[".repeat(8) + "Y" + "]".repeat(8) + "{}", 4);
+        s.run("(" + "B[".repeat(7) + "A" + "]".repeat(7) + ")*A()", -10000);
+        s.run("*" + "B[".repeat(8) + "C" + "]".repeat(8) + "()", 1);
+        s.run("*D[C]()", 1).gave("D");
+        s.declare("E:A{" + "B[".repeat(7) + "A" + "]".repeat(7) + "f;}", 5);
+        s.run("*E(*" + "B[".repeat(7) + "A" + "]".repeat(7) + "())", 1).gave("E(B)");
+        s.run("*E(*" + "B[".repeat(6) + "A" + "]".repeat(6) + "())", -9000);
+        s.run("*E(*" + "B[".repeat(7) + "C" + "]".repeat(7) + "())", -9000);
+        s.declare("F[X:A]:A{" + "B[".repeat(7) + "X" + "]".repeat(7) + "f;}", 6);
+        s.run("*F[C](*" + "B[".repeat(7) + "C" + "]".repeat(7) + "())", 1).gave("F(B)");
+        s.run("*F[C](*" + "B[".repeat(7) + "A" + "]".repeat(7) + "())", -9000);
+    }
+
     private static void fields() {
         Session s = new Session();
         s.declare("B:A{Hf;}", -2000);
@@ -122,6 +162,7 @@ public final class DeclareTest {
         s.declare("B:A{Am(Xx)=t;}", -2000);
         s.declare("B:A{Am(Ax,Hy)=t;}", -2000);
         s.declare("B:A{Am[X:A]()=t;Xn()=t.n();}", -2000);
+        s.declare("B:A{Am[X:A]()=t;Xf;}", -2000);
         s.declare("B:A{Am(Ax,Ay,Ax)=x;}", -3000);
         s.declare("B:A{Am(Ax,At)=x;}", -3000);
         s.declare("B:A{Am()=t;Bm(Ax)=t;}", -3000);

@@ -3,7 +3,7 @@ import java.lang.management.ManagementFactory;
 
 /** 512 of the dearest calls make so little that many runs fit into one room. */
 public final class RoomTest {
-    private static final long MOST_BYTES = 2_000_000;
+    private static final long MOST_BYTES = 400_000;
     private static final int CALLS = 512;
     private static int calls;
 

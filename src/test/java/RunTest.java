@@ -9,6 +9,8 @@ public final class RunTest {
         fuel();
         callsInOneAnother();
         leftAfterwards();
+        laterRuns();
+        longRuns();
         Session.end();
     }
 
@@ -43,6 +45,8 @@ public final class RunTest {
         // the names of the caller are there again when a call has ended
         s.declare("G:F{A r(Aa)=*A();A q(Aa,Ab)=*F(*F(t.r(b),a),*F(t.p(b,b,b),b));}", 7);
         s.run("*G(*A(),*A()).q(*B(),*C())", 1).gave("F(F(A,B),F(F(C,F(C,C)),C))");
+        s.run("*F(*D(),*G(*A(),*A()).q(*B(),*C()))", 1).gave("F(D,F(F(A,B),F(F(C,F(C,C)),C)))");
+        s.run("*F(*D(),*F(*G(*A(),*A()).q(*B(),*C()),*B()).y)", 1).gave("F(D,B)");
     }
 
     private static void fromTheLeft() {
@@ -99,6 +103,36 @@ public final class RunTest {
         s.run("*F().m(".repeat(1) + "*F().m(".repeat(6) + "*A()" + ")".repeat(7), 40, 1).left(33);
         // after a run that ended in the depth, the next one starts anew
         s.run("*E(*C(*C(*B()))).y().y().x.m()", 40, 4).run("*E(*C(*B())).y().y().x.m()", 40, 1).left(26);
+    }
+
+    /** However an earlier run ended, the next one finds nothing of it. */
+    private static void laterRuns() {
+        String[] endings = {"*A().f", "*B(x)", "*B(*A()", "*B().m(*B(),*A().f)", "*B().m(*B(),*B())", "*B().o((B)*A(),x)",
+            "*B().o(*B(),(B)*A())"};
+        for (String ending : endings) {
+            Session s = new Session();
+            s.declare("B:A{Bm(Bx,Ay)=t.m(x,y);Ao(Ax,Ay)=x;}", 2).declare("C:B{}", 3);
+            int want = s.say(ending).x.run(40);
+            for (int k = 0; k < 75; k++) {
+                s.run(ending, 40, want);
+            }
+            s.run("*B().o(*B().o(*C(),*A()),*A())", 40, 1).gave("C").left(38);
+        }
+    }
+
+    /** Texts of full length, as many as an object is used for: wrong ones leave room for the next. */
+    private static void longRuns() {
+        Session s = new Session();
+        s.declare("B:A{Bm(Ax)=t;}", 2);
+        for (int k = 0; k < 10; k++) {
+            s.run("*A(t" + ",t".repeat(67) + ")", 40, -7000);
+        }
+        s.run("*B()" + ".m(*A())".repeat(17), 40, 1).gave("B").left(23);
+        s = new Session();
+        for (int k = 0; k < 10; k++) {
+            s.declare("B:A{Am()=*A(t" + ",t".repeat(61) + ");}", -7000);
+        }
+        s.declare("B:A{Bm(Ax)=t;}", 2).run("*B()" + ".m(*A())".repeat(17), 40, 1).gave("B").left(23);
     }
 
     private static void leftAfterwards() {
