@@ -1150,7 +1150,9 @@ public final class BoundedTypes {
                     enter(entry, member);
                     expressions.standIn(self, member);
                     wrong = expressions.wrongIn(member.codeStart, member.codeEnd);
-                    wrong = wrong != 0 || rules.liesIn(expressions.found(), member.result) ? wrong : 11;
+                    if (wrong == 0 && !rules.liesIn(expressions.found(), member.result)) {
+                        wrong = 11;
+                    }
                 }
             }
             return wrong;
