@@ -649,14 +649,15 @@ final class PlainModel {
         return all;
     }
 
-    /** Behind a depth of 200 nothing can be among the first 200 characters. */
+    /** Behind 200 characters nothing is to be seen any more, so it is left out, however much it would be. */
     private static String textOf(Value value, int before) {
         if (before > 200) {
             return "";
         }
         StringBuilder all = new StringBuilder().append(value.name);
         for (int i = 0; i < value.fields.size() && before + all.length() <= 200; i++) {
-            all.append(i == 0 ? '(' : ',').append(textOf(value.fields.get(i), before + all.length() + 1));
+            all.append(i == 0 ? '(' : ',');
+            all.append(textOf(value.fields.get(i), before + all.length()));
         }
         return (value.fields.isEmpty() ? all : all.append(')')).toString();
     }

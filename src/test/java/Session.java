@@ -4,6 +4,9 @@ final class Session {
     private static int asked;
 
     final BoundedTypes x = new BoundedTypes();
+    /** How many calls were made, but for those that a test makes on x itself. */
+    int calls;
+    private String last = "";
 
     static void due(String call, long got, long want) {
         asked++;
@@ -38,6 +41,7 @@ final class Session {
     Session say(String text) {
         for (int i = 0; i < text.length(); i += 4) {
             String piece = text.substring(i, Math.min(i + 4, text.length()));
+            calls++;
             due("type of '" + piece + "' in " + text, x.type(word(piece), piece.length()), true);
         }
         return this;
@@ -45,12 +49,16 @@ final class Session {
 
     Session declare(String text, int want) {
         say(text);
+        calls++;
+        last = " after " + text;
         due("declare() of " + text, x.declare(), want);
         return this;
     }
 
     Session run(String text, int fuel, int want) {
         say(text);
+        calls++;
+        last = " after " + text;
         due("run(" + fuel + ") of " + text, x.run(fuel), want);
         return this;
     }
@@ -61,27 +69,41 @@ final class Session {
 
     /** The text of the value of the last run; it must be there whole, and nothing behind it. */
     Session gave(String want) {
-        due("length() for " + want, x.length(), want.length());
-        due("at(-1) for " + want, x.at(-1), -1);
+        length(want.length());
+        at(-1, -1);
         for (int i = 0; i < want.length(); i++) {
-            due("at(" + i + ") for " + want, x.at(i), want.charAt(i));
+            at(i, want.charAt(i));
         }
-        due("at(" + want.length() + ") for " + want, x.at(want.length()), -1);
+        return at(want.length(), -1);
+    }
+
+    Session length(int want) {
+        calls++;
+        due("length()" + last, x.length(), want);
+        return this;
+    }
+
+    Session at(int i, int want) {
+        calls++;
+        due("at(" + i + ")" + last, x.at(i), want);
         return this;
     }
 
     Session left(int want) {
-        due("left()", x.left(), want);
+        calls++;
+        due("left()" + last, x.left(), want);
         return this;
     }
 
     Session fields(int c, int want) {
-        due("fields(" + c + ")", x.fields(c), want);
+        calls++;
+        due("fields(" + c + ")" + last, x.fields(c), want);
         return this;
     }
 
     Session method(int c, char name, int want) {
-        due("method(" + c + ", " + name + ")", x.method(c, name - 97), want);
+        calls++;
+        due("method(" + c + ", " + name + ")" + last, x.method(c, name - 97), want);
         return this;
     }
 }
