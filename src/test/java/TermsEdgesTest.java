@@ -26,6 +26,7 @@ public final class TermsEdgesTest {
         anyNumberOfCasts();
         aBracketBeforeAClassBeginsACast();
         eightBrackets();
+        eightBracketsInAnyPlace();
         theNinthBracketOfEachKind();
         closedBracketsDoNotCount();
         sixFields();
@@ -224,6 +225,25 @@ public final class TermsEdgesTest {
         t.declare("D:" + "B[".repeat(9) + "A" + "]".repeat(9) + "{}", -20);
         t.declare("D:A{Am()=" + "(".repeat(7) + "t" + ")".repeat(7) + ";}", 4);
         t.declare("E:A{Am()=" + "(".repeat(8) + "t" + ")".repeat(8) + ";}", -17);
+    }
+
+    /** A type in eight brackets, each time as the first, second or third in them, is filled in down to the last. */
+    private static void eightBracketsInAnyPlace() {
+        for (String around : new String[] {"B[@,A,A]", "B[A,@,A]", "B[A,A,@]"}) {
+            Session s = new Session().declare("B[X:A,Y:A,Z:A]:A{}", 2).declare("C:A{}", 3);
+            s.declare("D[X:A]:" + nested(around, 8, "X") + "{}", 4).declare("E:D[C]{}", 5);
+            s.declare("F[X:A]:A{" + around.replace("@", "X") + "f;}", 6).declare("G[X:A]:" + nested(around, 7, "X") + "{}", 7);
+            s.run("*F[" + nested(around, 7, "C") + "](*E())", 1).gave("F(E)");
+            s.run("*F[" + nested(around, 7, "A") + "](*E())", -9000);
+            s.run("*F[" + nested(around, 6, "C") + "](*G[C]())", 1).gave("F(G)");
+            s.run("(" + nested(around, 7, "C") + ")*G[C]()", 1).gave("G");
+            s.run("(" + nested(around, 7, "A") + ")*G[C]()", -10000);
+            s.declare("H:" + nested(around, 9, "A") + "{}", -1 - "H:".length() - 8 * around.indexOf('@') - 1);
+        }
+    }
+
+    private static String nested(String around, int depth, String in) {
+        return depth == 0 ? in : around.replace("@", nested(around, depth - 1, in));
     }
 
     /** Eight are open; what would open the ninth cannot be, whatever it is for. */
